@@ -515,7 +515,6 @@ public final class BobbinTalk {
             bobbins = MOST_BOBBINS;
             makers = FIRST_PACES.length;
             orders = FIRST_LENGTHS.length;
-            spangled = true;
             kinds = new int[MOST_MAKERS];
             for (int m = 0; m < kinds.length; m++) {
                 kinds[m] = m;

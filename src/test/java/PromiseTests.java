@@ -122,6 +122,13 @@ public final class PromiseTests {
         due("undo()", x.undo(), NO);
         due("back()", x.back(), NO);
         due("unpick()", x.unpick(), NO);
+        // TWIST, ACROSS by maker 0; HALF from the right by 1; TWIST for 3 by 2; TWIST, ACROSS twice by 3
+        due("lies behind c by 0", liesBehind(x, 0, 3), 130524);
+        due("lies behind c by 1", liesBehind(x, 1, 3), 12354);
+        due("lies behind d by 2", liesBehind(x, 2, 4), 103254);
+        due("lies behind c by 3", liesBehind(x, 3, 3), 351402);
+        due("say(3)", x.say(3), 4);
+        due("lies", lies(x), 204153);
         due("BAD", BobbinTalk.BAD, BAD);
         due("NO", BobbinTalk.NO, NO);
         due("FULL", BobbinTalk.FULL, FULL);
@@ -237,6 +244,20 @@ public final class PromiseTests {
         due("orders of none", y.count(2), 0);
         y.wipe();
         due("lay() of nothing", y.lay(), NO);
+        due("fault() of nothing", y.fault(), NONE);
+        due("count(0), laid as before", y.count(0), 2);
+        due("count(1), laid as before", y.count(1), 1);
+        writeAll(y, "m0,1,1000;o3;");
+        due("lay() without n behind one with n", y.lay(), 6);
+        due("count(2)", y.count(2), 1);
+        due("say(0)", y.say(0), 1);
+        due("lies", lies(y), 103254);
+        y.wipe();
+        writeAll(y, "n3;s555;o4");
+        due("fault()", y.fault(), 8);
+        due("count(0), laid as before", y.count(0), 6);
+        due("order(0), laid as before", y.order(0), 3);
+        due("bobbin(1, 1), laid as before", y.bobbin(1, 1), 1);
     }
 
     private static void layEndsAll() {
@@ -493,9 +514,17 @@ public final class PromiseTests {
         }
         for (int i = 7; i >= 0; i--) {
             due("undo() of the latest 8", x.undo(), i);
+            due("count(4)", x.count(4), i + 3);
         }
         due("undo() of a ninth", x.undo(), NO);
         due("count(4)", x.count(4), 3);
+        x.unpick();
+        x.say(0);
+        x.say(2);
+        x.undo();
+        x.undo();
+        x.undo();
+        due("made(2, 0), unpicked and made otherwise between", x.made(2, 0), 2);
         x.see(3);
         x.keep();
         x.say(9);
@@ -751,6 +780,8 @@ public final class PromiseTests {
         x.change(0, 2);
         due("slip(210) of no row", x.slip(210), 16777216);
         x.say(0);
+        due("slip(120) of one row", x.slip(120), 16777216);
+        due("slip(210) of one row", x.slip(210), 1);
         x.say(1);
         // 210, TWIST 120, ACROSS 102; without the first 201, without the second 120
         due("slip(102)", x.slip(102), 16777216);
@@ -822,7 +853,7 @@ public final class PromiseTests {
 
     private static void winter() {
         promise = "30";
-        BobbinTalk x = laid("n4;m0,1,1250;m0,1,5551;");
+        BobbinTalk x = laid("n4;m0,1,1250;m0,1,0001;");
         // draws by 0: 1 is a, by 10: 3008 is a and 8125 unpicks, by 2: 59533 unpicks and 15120 is c
         due("winter(0, 1, 0)", x.winter(0, 1, 0), 1);
         due("winter(0, 1, 1)", x.winter(0, 1, 1), 1);
@@ -836,6 +867,9 @@ public final class PromiseTests {
         // by 30: 59599 sits maker 7449 modulo 2 down, 57499 is d
         due("winter(30, 1, 0)", x.winter(30, 1, 0), 0);
         due("winter(30, 2, 0)", x.winter(30, 2, 0), 1);
+        BobbinTalk y = laid("n4;m0,1,0010;");
+        due("winter(2, 2, 0) by c alone", y.winter(2, 2, 0), 1);
+        due("winter(0, 1, 0) by c alone", y.winter(0, 1, 0), 0);
         x.say(0);
         due("winter(2, 1, 0), unpicked", x.winter(2, 1, 0), 0);
         due("winter(2, 2, 1), unpicked", x.winter(2, 2, 1), 1);
