@@ -380,7 +380,7 @@ public final class BobbinTalk {
      */
     private static final class Turn {
         static int held(int lay, int place) {
-            return lay >> 3 * place & 7;
+            return (lay >> (3 * place)) & 7;
         }
 
         static int placeOf(int lay, int bobbin, int places) {
@@ -395,7 +395,7 @@ public final class BobbinTalk {
         static int byNumber(int places) {
             int lay = 0;
             for (int p = 0; p < places; p++) {
-                lay |= p << 3 * p;
+                lay |= p << (3 * p);
             }
             return lay;
         }
@@ -412,14 +412,14 @@ public final class BobbinTalk {
 
         static int swapped(int lay, int p, int q) {
             int both = held(lay, p) ^ held(lay, q);
-            return lay ^ both << 3 * p ^ both << 3 * q;
+            return lay ^ (both << (3 * p)) ^ (both << (3 * q));
         }
 
         /** How the lay is behind the turn, or what turn two turns are together. */
         static int then(int lay, int turn, int places) {
             int result = 0;
             for (int p = 0; p < places; p++) {
-                result |= held(lay, held(turn, p)) << 3 * p;
+                result |= held(lay, held(turn, p)) << (3 * p);
             }
             return result;
         }
@@ -427,7 +427,7 @@ public final class BobbinTalk {
         static int turnedBack(int turn, int places) {
             int result = 0;
             for (int p = 0; p < places; p++) {
-                result |= p << 3 * held(turn, p);
+                result |= p << (3 * held(turn, p));
             }
             return result;
         }
@@ -435,7 +435,7 @@ public final class BobbinTalk {
         static int fromTheRight(int turn, int places) {
             int result = 0;
             for (int p = 0; p < places; p++) {
-                result |= places - 1 - held(turn, places - 1 - p) << 3 * p;
+                result |= (places - 1 - held(turn, places - 1 - p)) << (3 * p);
             }
             return result;
         }
@@ -446,7 +446,7 @@ public final class BobbinTalk {
             int used = 0;
             for (int p = 0; p < places; p++) {
                 int bit = 1 << held(lay, p);
-                rank = rank * (places - p) + held(lay, p) - Integer.bitCount(used & bit - 1);
+                rank = rank * (places - p) + held(lay, p) - Integer.bitCount(used & (bit - 1));
                 used |= bit;
             }
             return rank;
@@ -738,7 +738,7 @@ public final class BobbinTalk {
         }
 
         int whose(int k) {
-            return Numbers.get(rows, k) >> 3 & 3;
+            return (Numbers.get(rows, k) >> 3) & 3;
         }
 
         int layAhead(int k) {
@@ -747,7 +747,7 @@ public final class BobbinTalk {
 
         int makeRow(Laid laid, int sound) {
             int row = laid.rowBy(sits, sound);
-            Numbers.set(rows, rowsMade, row | sits << 3 | lies << 5);
+            Numbers.set(rows, rowsMade, row | (sits << 3) | (lies << 5));
             rowsMade++;
             lies = Turn.then(lies, laid.turnOf(sits, row), laid.bobbins);
             return row;

@@ -180,6 +180,11 @@ public final class PromiseTests {
         due("fault of a space", faultOf(" n4;"), 0);
         due("fault of a space behind", faultOf("n4; "), 3);
         due("fault of a capital", faultOf("N4;"), 0);
+        BobbinTalk x = new BobbinTalk();
+        writeAll(x, "n3;m0,1,1234;o5;s012;");
+        for (int i = 0; i < 3; i++) {
+            due("fault(), once more", x.fault(), NONE);
+        }
         StringBuilder long200 = new StringBuilder();
         for (int i = 0; i < 66; i++) {
             long200.append("n5;");
@@ -619,6 +624,17 @@ public final class PromiseTests {
         BobbinTalk z = laid("n5;m0,1,0035;");
         z.change(0, 4);
         due("home of 41230", z.home(0), 7);
+        due("home of 543210 by ababab", reversed().home(0), 6);
+    }
+
+    /** Six bobbins from the last to the first, with a maker of TWIST, ACROSS and two PINS: a way round by twelve lays. */
+    private static BobbinTalk reversed() {
+        BobbinTalk x = laid("m0,1,1200;");
+        x.change(0, 5);
+        x.change(1, 4);
+        x.change(2, 3);
+        due("lies", lies(x), 543210);
+        return x;
     }
 
     private static void ways() {
@@ -644,6 +660,11 @@ public final class PromiseTests {
         due("ways(0, 3)", y.ways(0, 3), 0);
         // a way round by six lays: 5 of the 16 walks of four steps end two steps on; each step is one of two sounds
         due("ways(0, 4)", y.ways(0, 4), 5 * 16);
+        // half round by six steps, this way or that; a PIN of two may stand at seven places between
+        BobbinTalk z = reversed();
+        due("ways(0, 5) half round", z.ways(0, 5), 0);
+        due("ways(0, 6) half round", z.ways(0, 6), 2);
+        due("ways(0, 7) half round", z.ways(0, 7), 28);
         due("ways(0, 11)", y.ways(0, 11), BAD);
         due("ways(0, -1)", y.ways(0, -1), BAD);
         due("ways(1, 0)", y.ways(1, 0), BAD);
@@ -764,6 +785,10 @@ public final class PromiseTests {
         }
         due("said(1, 0) of eight", x.said(1, 0), 6561);
         due("said(1, 1) is bbbbbbbb", x.said(1, 1), 195312);
+        BobbinTalk z = laid("m0,1,1234;");
+        z.see(4);
+        z.see(3);
+        due("said(0, 1) is dc", z.said(0, 1), 23);
         BobbinTalk y = laid("m0,1,5555;");
         for (int i = 0; i < 8; i++) {
             y.see(5);
