@@ -163,6 +163,11 @@ public final class PromiseTests {
         due("wipe()", x.wipe(), 0);
         due("fault()", x.fault(), NONE);
         due("write('m')", x.write('m'), 1);
+        x.wipe();
+        writeAll(x, "n5;");
+        x.wipe();
+        writeAll(x, "n5");
+        due("fault(), the ; wiped out", x.fault(), 0);
     }
 
     private static void fault() {
