@@ -8,6 +8,8 @@ import java.nio.file.Path;
 import java.util.Arrays;
 import java.util.Random;
 import java.util.TreeSet;
+import java.util.regex.Matcher;
+import java.util.regex.Pattern;
 
 /** The public face, the rules of LANGUAGE.md that can be seen from outside, and that no call ever throws. */
 public final class FaceTests {
@@ -25,6 +27,7 @@ public final class FaceTests {
         String source = Files.readString(sourceFile());
         headings(source);
         words(source);
+        shortMethods(source);
         oddArguments();
         System.out.println(wrong == 0 ? "the face is as told" : wrong + " things are not as told");
         if (wrong != 0) {
@@ -77,14 +80,15 @@ public final class FaceTests {
         Class<?>[] inner = BobbinTalk.class.getDeclaredClasses();
         hold(inner.length <= 12, "at most some twelve classes");
         for (Class<?> one : inner) {
-            hold(Modifier.isStatic(one.getModifiers()) && !Modifier.isPublic(one.getModifiers()), one + " is static, not public");
-            hold(one.getDeclaredFields().length <= 20, one + " has at most twenty fields");
+            hold(!Modifier.isPublic(one.getModifiers()) && !Modifier.isProtected(one.getModifiers()), one + " is not public");
+            long fields = 0;
             for (Field field : one.getDeclaredFields()) {
+                fields += Modifier.isStatic(field.getModifiers()) ? 0 : 1;
                 hold(!Modifier.isStatic(field.getModifiers()) || Modifier.isFinal(field.getModifiers()), field + " is final");
             }
+            hold(fields <= 20, one + " has at most some twenty fields");
             for (Method method : one.getDeclaredMethods()) {
                 hold(method.getParameterCount() <= 7, method + " takes at most seven");
-                hold(!(" " + FACE).contains(" " + method.getName() + "/"), method + " does not bear a name of the face");
             }
         }
     }
@@ -93,30 +97,42 @@ public final class FaceTests {
         int from = 0;
         for (String part : HEADINGS.split("\\|")) {
             String[] told = part.split(":");
-            int heading = source.indexOf("    // ---- " + told[0] + "\n", from);
+            int heading = placeOf("//\\s*----\\s*" + told[0], source, from);
             hold(heading >= from, "the heading " + told[0]);
             from = Math.max(from, heading);
             for (String call : told[1].split(" ")) {
-                int place = source.indexOf("    public int " + call + "(", from);
+                int place = placeOf("public int " + call + "\\(", source, from);
                 hold(place >= from, call + " stands behind its heading, in order");
                 from = Math.max(from, place);
             }
         }
     }
 
+    private static int placeOf(String words, String source, int from) {
+        Matcher found = Pattern.compile(words).matcher(source);
+        return found.find(from) ? found.start() : -1;
+    }
+
     private static void words(String source) {
         String code = source.replaceAll("(?s)/\\*.*?\\*/", " ").replaceAll("//[^\n]*", " ");
-        for (String word : new String[] {"->", "::", "throw", "catch", "try", "finally", "synchronized", "assert",
-            "package", "System.out", "System.nano", "System.current", "Random", "Exact", "volatile", "String.format"}) {
-            hold(!code.matches("(?s).*" + (Character.isLetter(word.charAt(0)) ? "\\b" : "")
-                + java.util.regex.Pattern.quote(word) + ".*"), "no " + word);
+        String[] never = {"\\bfinally\\b", "\\bsynchronized\\b", "\\bassert\\b", "\\bpackage\\b", "\\bvolatile\\b", "::",
+            "\\bSystem\\.(?!arraycopy)", "\\bRandom\\b", "\\w+Exact\\b", "\\bThread\\b", "static \\{",
+            "\\bcatch \\((Throwable|Exception|RuntimeException|IndexOutOf|ArrayIndex|NullPointer|ClassCast|NegativeArray|ArrayStore)"};
+        for (String word : never) {
+            hold(placeOf(word, code, 0) < 0, "no " + word);
         }
-        long imports = Arrays.stream(source.split("\n")).filter(line -> line.startsWith("import ")).count();
-        hold(imports == 1 && source.startsWith("import java.util.Arrays;"), "Arrays alone is imported");
+        for (String line : source.split("\n")) {
+            hold(!line.startsWith("import ") || line.matches("import java\\.util\\.(Arrays|ArrayList|List|Iterator|NoSuchElementException);"),
+                line + " is of the library told");
+            hold(!line.contains("->") || line.matches("\\s*(case|default)\\b.*"), "no lambda: " + line);
+        }
+    }
+
+    private static void shortMethods(String source) {
         int length = 0;
         for (String line : source.split("\n")) {
             length = line.matches("    (    )?\\S.*\\{") ? 0 : length + 1;
-            hold(length <= 60 || line.isEmpty(), "a method of at most sixty lines: " + line);
+            hold(length <= 60 || line.isEmpty(), "a method of at most some sixty lines: " + line);
         }
     }
 
