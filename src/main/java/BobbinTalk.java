@@ -29,6 +29,7 @@ public final class BobbinTalk {
     private static final int ALL_LAYS = 720;
     private static final int NO_SLIP = 1 << MOST_MADE;
     private static final int NO_PIN = -1;
+    private static final int NEVER_DONE = 1 << 30;
 
     private final Text text;
     private Laid laid;
@@ -1006,7 +1007,7 @@ public final class BobbinTalk {
 
         void dealOut(Laid laid) {
             Arrays.fill(loads, 0);
-            fewest = Integer.MAX_VALUE;
+            fewest = NEVER_DONE;
             give(laid, 0, 0);
         }
 

@@ -26,6 +26,10 @@ public final class IndexTests {
     }
 
     public static void main(String[] args) throws IOException {
+        if (!Files.isReadable(DOCUMENT)) {
+            System.out.println("no " + DOCUMENT + " to look into");
+            return;
+        }
         Map<String, String> parts = partsOfTheDocument();
         List<Named> named = namedByTests();
         for (Named one : named) {

@@ -55,8 +55,8 @@ public final class PillowSentences extends Sentences {
         noFault("", "n5;", "m0,1,1234;", "o5;", "s012345;", "o1;o2;s012345;m0,1,1234;o3;");
         faultAt(0, ";", "5;", ",", "n", "n5", "n5,", "n5,;", "n,5;", "n5:", "m0,1,1234", "m01,1234;", "m0,11234;", "m0;1;1234;",
             "m0,1,1234,;", "m0,,1,1234;", "m,0,1,1234;", "m0,1;", "m0;", "m;", "m0.1.1234;", "o5", "o5,;", "o,5;", "s012345", "s012345,;",
-            "s,012345;", "s;", "p5;", "N5;", "M0,1,1234;", "O5;", "S012345;", " n5;", "n 5;", "n5 ;");
-        faultAt(3, "n5;;", "n5; ", "n5; o5;", "n5;o5", "n5;o5m0,1,1234;", "n5;5;");
+            "s,012345;", "s;", "p5;", "p;", "x;", ";;", " ;", "N5;", "M0,1,1234;", "O5;", "S012345;", " n5;", "n 5;", "n5 ;");
+        faultAt(3, "n5;;", "n5;;;", "n5;x;", "n5; ", "n5; o5;", "n5;o5", "n5;o5m0,1,1234;", "n5;5;");
         faultAt(6, "n5;o5;o", "n5;o5;;", "o1;o2;x");
     }
 
@@ -79,6 +79,9 @@ public final class PillowSentences extends Sentences {
         noFault("n5;", "n05;", "o7;", "o07;", "o17;", "m0,1,1234;", "m00,1,1234;", "m0,01,1234;", "m03,09,1234;");
         faultAt(0, "n;", "n005;", "n055;", "o;", "o007;", "o012;", "o100;", "m,1,1234;", "m000,1,1234;", "m0,,1234;", "m0,001,1234;",
             "n-5;", "n+5;", "n5a;", "na;", "o0x;", "o1 ;", "o 1;");
+        // the letters next to 0 and 9
+        faultAt(0, "n5/;", "n/5;", "o:;", "o5:;", "o:5;", "o1/;", "o/9;", "m/,1,1234;", "m0,/9,1234;", "m0,0:,1234;", "m0:,1,1234;",
+            "m1/,1,1234;", "m0,1/,1234;");
         due("n05; is five", laid("n05;m0,1,1234;").count(0), 5);
         due("o07; is seven", laid("m0,1,1234;o07;").order(0), 7);
         BobbinTalk x = laid("m03,09,1234;");
@@ -88,7 +91,7 @@ public final class PillowSentences extends Sentences {
 
     static void rowOfSingleFigures() {
         sentence("Terms 1", "a row: single figures, one next to the other):");
-        faultAt(0, "m0,1,1,2,3,4;", "m0,1,1 234;", "m0,1,12a4;", "m0,1,12;34;", "s0,1,2,3,4,5;", "s01234:;", "s01234 5;", "s0123/5;");
+        faultAt(0, "m0,1,000/;", "m0,1,/000;", "m0,1,1,2,3,4;", "m0,1,1 234;", "m0,1,12a4;", "m0,1,12;34;", "s0,1,2,3,4,5;", "s01234:;", "s01234 5;", "s0123/5;");
         noFault("m0,1,0505;", "s090909;");
     }
 
@@ -111,6 +114,20 @@ public final class PillowSentences extends Sentences {
         due("fault() of a row of six without n", x.fault(), NONE);
         due("lay() without n", x.lay(), 6);
         due("at(5)", x.at(5), 5);
+        x.wipe();
+        write(x, "n3;s012;");
+        due("fault() with n3", x.fault(), NONE);
+        x.wipe();
+        write(x, "s012345;");
+        due("fault() without n, behind one with n3", x.fault(), NONE);
+        x.wipe();
+        write(x, "n4;m0,1,1234;");
+        due("lay() with n4", x.lay(), 4);
+        for (int i = 0; i < 3; i++) {
+            x.wipe();
+            write(x, "m0,1,1234;");
+            due("lay() without n, once more", x.lay(), 6);
+        }
         faultAt(0, "s01234;", "s0123456;");
     }
 
@@ -180,7 +197,7 @@ public final class PillowSentences extends Sentences {
             }
             due("maker(" + (m + 1) + ", 0)", x.maker(m + 1, 0), BAD);
         }
-        faultAt(40, letters + "m0,1,1234;", letters + "m0,1,1234;o5;");
+        faultAt(40, letters + "m0,1,1234;", letters + "m0,1,1234;o5;", letters + "m;", letters + "m");
         faultAt(44, "o60;" + letters + "m0,1,1234;");
         noFault(letters + "o5;s012345;");
     }
@@ -207,7 +224,7 @@ public final class PillowSentences extends Sentences {
             }
             due("order(" + (k + 1) + ")", x.order(k + 1), BAD);
         }
-        faultAt(34, letters + "o1;", letters + "o1;o2;");
+        faultAt(34, letters + "o1;", letters + "o1;o2;", letters + "o;", letters + "o");
         faultAt(18, "o1;o1;o1;o1;o1;o1;o1;");
         noFault(letters + "s012345;");
     }

@@ -87,6 +87,32 @@ public final class SayingSentences extends Sentences {
         due("behind ab", liesBehind(x, 0, 7), 1032);
     }
 
+    static void sayingIsOfHisRowsAlone() {
+        sentence("Terms 3", "A SAYING by a MAKER is his ROWS by its SOUNDS, from how BOBBINS lie now.");
+        // those who are told ahead of him and behind him make what he does not
+        BobbinTalk x = laid("n4;m0,1,1222;m0,1,0000;m0,1,2221;m0,1,2222;");
+        x.change(0, 1);
+        due("home(0)", x.home(0), NONE);
+        due("home(1)", x.home(1), NONE);
+        due("home(3)", x.home(3), NONE);
+        due("brings(1, 0, 0)", x.brings(1, 0, 0), NONE);
+        due("brings(3, 0, 0)", x.brings(3, 0, 0), NONE);
+        due("behind(1, a, 0)", x.behind(1, 1, 0), 1);
+        due("behind(1, d, 0)", x.behind(1, 4, 0), 1);
+        due("round(1, abcd)", x.round(1, saying("abcd")), 1);
+        due("slips(1, abcd, 5, 1)", x.slips(1, saying("abcd"), 5, 1), 1);
+        x.change(2, 3);
+        due("ways(0, 1)", x.ways(0, 1), 1);
+        due("ways(1, 1)", x.ways(1, 1), 0);
+        due("ways(2, 1)", x.ways(2, 1), 1);
+        due("ways(3, 1)", x.ways(3, 1), 0);
+        due("home(1)", x.home(1), NONE);
+        due("home(2)", x.home(2), 1);
+        due("home(3)", x.home(3), NONE);
+        due("ways(1, 10)", x.ways(1, 10), 0);
+        due("ways(3, 10)", x.ways(3, 10), 0);
+    }
+
     static void behindIsWhatSoundsDo() {
         sentence("Terms 3", "BEHIND it: which BOBBIN lies at a place.");
         for (int kind = 0; kind < 4; kind++) {
@@ -134,7 +160,8 @@ public final class SayingSentences extends Sentences {
 
     static void bringsTheShortestSaying() {
         sentence("Terms 3", "BRINGS for a MAKER, a BOBBIN, a place: of SAYINGS of 6 SOUNDS or fewer by which it would lie there, the shortest,");
-        // c TWIST, d ACROSS: from one end to the other by as many sounds as there are places between
+        // c TWIST, d ACROSS: from one end to the other by as many sounds as there are places between (no place is
+        // farther than five sounds, if it can be come to at all: 6 SOUNDS bound nothing that can be seen)
         String[] sounds = {"c", "cd", "cdc", "cdcd", "cdcdc"};
         for (int n = 2; n <= 6; n++) {
             BobbinTalk x = laid("n" + n + ";m0,1,0012;");
@@ -209,6 +236,18 @@ public final class SayingSentences extends Sentences {
         }
     }
 
+    static void homeByTheOneWayRound() {
+        sentence("Terms 3", "HOME for a MAKER: the fewest SOUNDS by which all would lie by number from the left;");
+        // TWIST, ACROSS leads round by n lays, of which for n = 6 the fourth is 543210
+        for (int n = 2; n <= 6; n++) {
+            BobbinTalk x = laid("n" + n + ";m0,1,0300;");
+            for (int said = 0; said <= n; said++) {
+                due("home(0) behind " + said + " of " + n, x.home(0), (n - said) % n);
+                x.say(1);
+            }
+        }
+    }
+
     static void homeOf18Sounds() {
         sentence("Terms 3", "HOME for a MAKER: the fewest SOUNDS by which all would lie by number from the left;");
         // of all 720 lays this one is the farthest from home by TWIST, ACROSS and HALF; no bound is told
@@ -240,6 +279,19 @@ public final class SayingSentences extends Sentences {
         x.change(0, 1);
         x.change(2, 3);
         due("home(3) by PINS, all at home", x.home(3), 0);
+    }
+
+    static void homeNoneBehindALongWay() {
+        sentence("Terms 3", "none (whatever is said they do not).");
+        BobbinTalk x = laid("n4;m0,1,0035;m0,1,0000;m0,1,2222;");
+        for (int i = 0; i < 32; i++) {
+            int lay = lies(x);
+            due("home(0) is told, of " + lay, x.home(0) >= 0 ? 1 : 0, 1);
+            due("home(1) by PINS, of " + lay, x.home(1), lay == 123 ? 0 : NONE);
+            due("home(0) is told, of " + lay, x.home(0) >= 0 ? 1 : 0, 1);
+            due("home(2) by ACROSS, of " + lay, x.home(2), lay == 123 ? 0 : lay == 213 ? 1 : NONE);
+            x.change(i % 4, (i + 1 + i / 4 % 3) % 4);
+        }
     }
 
     // ---- the terms: ways, alike, deal
@@ -297,6 +349,30 @@ public final class SayingSentences extends Sentences {
         due("ways(0, 5) half round", z.ways(0, 5), 0);
         due("ways(0, 6) half round", z.ways(0, 6), 2);
         due("ways(0, 7) half round", z.ways(0, 7), 28);
+    }
+
+    static void waysOfTheOneWayRound() {
+        sentence("Terms 3", "how many rows of n SOUNDS by him would bring BOBBINS that lie by number to how they lie now.");
+        // TWIST, ACROSS leads round by six lays: rows of n sounds by which it is made as often as now, or six times more
+        BobbinTalk x = laid("n6;m0,1,0030;");
+        for (int said = 0; said < 6; said++) {
+            for (int n = 0; n <= 10; n++) {
+                int want = 0;
+                for (int often = said; often <= n; often += 6) {
+                    want += rowsWith(often, n);
+                }
+                due("ways(0, " + n + ") behind " + said, x.ways(0, n), want);
+            }
+            x.say(2);
+        }
+    }
+
+    /** Of n sounds, often of them the one and the others any of three. */
+    private static int rowsWith(int often, int n) {
+        if (often < 0 || often > n) {
+            return 0;
+        }
+        return n == 0 ? 1 : rowsWith(often - 1, n - 1) + 3 * rowsWith(often, n - 1);
     }
 
     static void alikeBy2Sayings() {

@@ -54,6 +54,18 @@ public final class WinterSentences extends Sentences {
         chance(x, 0, "bbbbbbba", 9, 1, 10);
     }
 
+    static void slipsOfFewerSoundsBehindMore() {
+        sentence("Terms 4", "SLIPS for a MAKER, a SAYING: each SOUND is a PIN by x (0 to 10) of ten, for itself, else his ROW:");
+        BobbinTalk x = laid("n2;m0,1,1000;");
+        for (String sounds : new String[] {"aaaaaaaa", "aaaa", "aaa", "aa", "a"}) {
+            chance(x, 0, "aaaaaaaa", 5, 1, 2);
+            chance(x, 0, sounds, 5, 1, 2);
+        }
+        chance(x, 0, "aaaaaaaa", 1, 456161, 781250);
+        chance(x, 0, "aa", 3, 29, 50);
+        chance(x, 0, "a", 3, 7, 10);
+    }
+
     static void slipsOfAllBobbinsAsByTheSaying() {
         sentence("Terms 4", "the chance that all BOBBINS lie as they would by the SAYING,");
         BobbinTalk y = laid("n3;m0,1,1200;");
