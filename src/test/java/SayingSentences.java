@@ -395,6 +395,41 @@ public final class SayingSentences extends Sentences {
         due("dddddddd as a, of eight sounds", x.alike(2, 390624, 1), 1);
     }
 
+    static void alikeAllBobbins() {
+        sentence("Terms 3", "ALIKE: 1, if by two SAYINGS of a MAKER all BOBBINS would lie alike, 0.");
+        // a and b lead round one way and the other; c between them changes two bobbins alone, at each time others
+        BobbinTalk x = laid("n6;m0,1,3450;m1,1,3450;");
+        for (int m = 0; m < 2; m++) {
+            for (String sounds : new String[] {"c", "acb", "aacbb", "aaacbbb", "bca", "bbcaa"}) {
+                due("round of " + sounds, x.round(m, saying(sounds)), 2);
+                due(sounds + " as a PIN", x.alike(m, saying(sounds), 4), 0);
+                due("a PIN as " + sounds, x.alike(m, 4, saying(sounds)), 0);
+                due(sounds + " as itself", x.alike(m, saying(sounds), saying(sounds)), 1);
+            }
+            due("ab as a PIN", x.alike(m, saying("ab"), 4), 1);
+            due("aaabbb as cc", x.alike(m, saying("aaabbb"), saying("cc")), 1);
+        }
+        due("acb as c", x.alike(0, saying("acb"), 3), 0);
+        due("aacbb as acb", x.alike(0, saying("aacbb"), saying("acb")), 0);
+    }
+
+    static void homeAndWaysOfAllBobbins() {
+        sentence("Terms 3", "none (whatever is said they do not).");
+        BobbinTalk x = laid("n6;m0,1,0000;");
+        for (int b = 0; b < 6; b++) {
+            for (int c = b + 1; c < 6; c++) {
+                x.change(b, c);
+                due("home(0), " + b + " and " + c + " changed", x.home(0), NONE);
+                due("ways(0, 0), " + b + " and " + c + " changed", x.ways(0, 0), 0);
+                due("ways(0, 1), " + b + " and " + c + " changed", x.ways(0, 1), 0);
+                due("count(5), " + b + " and " + c + " changed", x.count(5), 4);
+                x.change(c, b);
+                due("home(0), changed again", x.home(0), 0);
+                due("ways(0, 0), changed again", x.ways(0, 0), 1);
+            }
+        }
+    }
+
     private static void dealt(String letters, int minutes, int... makers) {
         BobbinTalk x = laid(letters);
         due("deal(-1) of " + letters, x.deal(-1), minutes);

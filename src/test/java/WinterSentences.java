@@ -72,7 +72,9 @@ public final class WinterSentences extends Sentences {
         // ab: only both rows bring it, 9 * 9 of 100; aab: a both or none
         chance(y, 0, "ab", 1, 81, 100);
         chance(y, 0, "aab", 1, 369, 500);
-        // HALF leaves two of four where they are: that is not all
+        // HALF leaves all but two where they are: that is not all
+        chance(laid("n6;m0,1,5000;"), 0, "a", 9, 1, 10);
+        chance(laid("n6;m1,1,5000;"), 0, "a", 9, 1, 10);
         chance(laid("n4;m0,1,5000;"), 0, "a", 9, 1, 10);
         // as by two TWISTS, ACROSS of eight: by two or all eight, for six lead round
         chance(laid("n6;m0,1,3000;"), 0, "aaaaaaaa", 1, 43048989, 100000000);
