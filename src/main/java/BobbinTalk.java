@@ -1008,22 +1008,24 @@ public final class BobbinTalk {
         void dealOut(Laid laid) {
             Arrays.fill(loads, 0);
             fewest = NEVER_DONE;
-            give(laid, 0, 0);
+            give(this, laid, 0, 0);
         }
 
-        private void give(Laid laid, int k, int minutes) {
-            if (k >= laid.orders || k >= tried.length) {
-                fewest = minutes;
-                System.arraycopy(tried, 0, best, 0, MOST_ORDERS);
+        // static, as rule 8 of LANGUAGE.md wants a method that calls itself; as deep as there are orders
+        private static void give(Dealing dealing, Laid laid, int k, int minutes) {
+            if (k >= laid.orders || k >= MOST_ORDERS) {
+                dealing.fewest = minutes;
+                System.arraycopy(dealing.tried, 0, dealing.best, 0, MOST_ORDERS);
                 return;
             }
+            int[] loads = dealing.loads;
             for (int m = 0; m < laid.makers && m < loads.length; m++) {
                 int more = Numbers.get(laid.lengths, k) * Numbers.get(laid.paces, m);
                 int longest = Math.max(minutes, loads[m] + more);
-                if (longest < fewest) {
+                if (longest < dealing.fewest) {
                     loads[m] += more;
-                    Numbers.set(tried, k, m);
-                    give(laid, k + 1, longest);
+                    Numbers.set(dealing.tried, k, m);
+                    give(dealing, laid, k + 1, longest);
                     loads[m] -= more;
                 }
             }

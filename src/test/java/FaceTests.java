@@ -145,13 +145,14 @@ public final class FaceTests {
         Method[] calls = BobbinTalk.class.getDeclaredMethods();
         Arrays.sort(calls, (a, b) -> a.getName().compareTo(b.getName()));
         String[] texts = {"", "n2;m1,1,1234;o3;", "n3;m3,9,3455;m2,1,5050;s901;o60;o60;o60;o60;o60;o60;"};
-        for (int run = 0; run < 60; run++) {
+        for (int run = 0; run < 150; run++) {
             BobbinTalk x = new BobbinTalk();
-            for (char letter : texts[run % texts.length].toCharArray()) {
+            String letters = texts[run % texts.length];
+            for (char letter : letters.toCharArray()) {
                 x.write(letter);
             }
             x.lay();
-            for (int call = 0; call < 1000; call++) {
+            for (int call = letters.length() + 1; call < 512; call++) {
                 Method method = calls[random.nextInt(calls.length)];
                 if (!Modifier.isPublic(method.getModifiers())) {
                     continue;
